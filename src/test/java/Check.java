@@ -2,12 +2,18 @@
 final class Check {
   private int asked = 0;
   private int wrong = 0;
+  private String sentence = "";
+
+  /** What is asked from here on stands for this sentence of the document. */
+  void sentence(String words) {
+    sentence = "[" + words + "] ";
+  }
 
   void due(String call, long got, long want) {
     asked++;
     if (got != want) {
       wrong++;
-      System.out.println(call + " answered " + got + ", due is " + want);
+      System.out.println(sentence + call + " answered " + got + ", due is " + want);
     }
   }
 
