@@ -27,6 +27,7 @@ public final class TermsEdgeTest {
     faultsGoAheadOfBeyond();
     onlyThenSomethingIsWritten();
     whatWasKeptStays();
+    memoryIsTheClassesOwn();
     fiveHundredAndTwelveCalls();
     CHECK.end();
   }
@@ -549,6 +550,25 @@ public final class TermsEdgeTest {
     CHECK.due("and WRITTEN", x.kept(0, 2), Entries.unsigned(Entries.valid(ALL, page) | WRITTEN));
     CHECK.due("in memory, too", x.entryOf(0x80), Entries.unsigned(Entries.valid(ALL, page) | WRITTEN));
     CHECK.due("its table stays kept", x.kept(8, 1), 0x8080);
+  }
+
+  private static void memoryIsTheClassesOwn() {
+    CHECK.sentence("All memory is the class's own.");
+    KeptPages x = Entries.laidOut();
+    KeptPages y = Entries.laidOut();
+    x.entry(0x80, Entries.valid(ALL, 14));
+    CHECK.due("one object is written to", x.write(5, 4, -1, 0), 0);
+    CHECK.due("and fails", x.read(0xC000, 1, 0), -2);
+    nothingKept(y, "the other");
+    CHECK.due("the other's entry", y.entryOf(0x80), 0);
+    CHECK.due("the other's bytes", y.entryOf(14 * 16 + 5), 0);
+    CHECK.due("the other's failed()", y.failed(), -1);
+    y.region(0, 0, 0);
+    y.region(2, 0, 0);
+    y.map(false);
+    CHECK.due("the one has what was kept", x.kept(0, 1), 0);
+    CHECK.due("the one reads on", x.read(5, 4, 0), 0xFFFFFFFFL);
+    CHECK.due("the one's regions stay", x.read(0x80E5, 4, 0), 0xFFFFFFFFL);
   }
 
   private static void fiveHundredAndTwelveCalls() {
